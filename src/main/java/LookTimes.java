@@ -1,5 +1,3 @@
-import java.util.Arrays;
-
 /** How long babies look at screens, and what may be said of it. See the document's promises 1 to 44. */
 public final class LookTimes {
     public static final int NONE = -1;
@@ -48,8 +46,7 @@ public final class LookTimes {
 
     /** Every word with a meaning, each filled up to eight letters: first the names, then those of the LINES. */
     private static final String WORDS =
-        "odd     fresh   much    last    order   tired   liked   age     house   total   longest trials  "
-        + "law     is      out     if      ";
+        "odd     fresh   much    last    order   tired   liked   age     house   total   longest trials  law     is      out     if      ";
     private static final int NAMES = 12;
     private static final int WORD_COUNT = 16;
     private static final int ODD = 0;
@@ -83,7 +80,6 @@ public final class LookTimes {
     private final int[] refusals;
     private final Text text;
     private final Parser parser;
-    private final Program draft;
     private final Program program;
     private final Stage stage;
     private final Lab lab;
@@ -91,8 +87,8 @@ public final class LookTimes {
     private final Lab[] images;
     private final Teller teller;
     private final Meter meter;
+    private final Odds tally;
     private final Hindsight hindsight;
-    private final Drawer drawer;
     private final Finder finder;
     private final Book journal;
 
@@ -100,16 +96,15 @@ public final class LookTimes {
         refusals = new int[REASONS];
         text = new Text();
         parser = new Parser(text);
-        draft = new Program();
         program = new Program();
         stage = new Stage();
         lab = new Lab();
         spare = new Lab();
         images = new Lab[MAX_IMAGES];
-        teller = new Teller(stage, program);
+        teller = new Teller(stage, lab, program);
         meter = new Meter(stage, lab, program);
-        hindsight = new Hindsight(lab, meter);
-        drawer = new Drawer(stage, lab, teller);
+        tally = new Odds(lab, meter);
+        hindsight = new Hindsight(lab, tally);
         finder = new Finder(stage, program, teller);
         journal = new Book();
     }
@@ -135,14 +130,15 @@ public final class LookTimes {
     }
 
     public int fault() {
-        return parser.faultOf(draft);
+        return parser.findFault();
     }
 
     public int laws() {
-        if (parser.faultOf(draft) != NONE) {
+        if (parser.findFault() != NONE) {
             return refuse(CAN_NOT);
         }
-        program.take(draft);
+        program.take(parser.draft);
+        finder.forget();
         text.size = 0;
         journal.lawsCame = true;
         return program.laws;
@@ -156,6 +152,7 @@ public final class LookTimes {
             return refused(CAN_NOT);
         }
         stage.likes[kind] = much;
+        finder.forget();
         return true;
     }
 
@@ -170,6 +167,7 @@ public final class LookTimes {
         if (!dolls || !within(hand, -MAX_DOLLS, MAX_DOLLS) || !within(first + hand, 0, MAX_DOLLS)) {
             return refuse(CAN_NOT);
         }
+        finder.forget();
         return stage.addScreen(first, hand, shown, kind);
     }
 
@@ -339,16 +337,16 @@ public final class LookTimes {
         if (!within(what, 0, 3)) {
             return VOID;
         }
-        meter.countAll();
+        tally.countAll();
         switch (what) {
             case 0:
-                return meter.counted;
+                return tally.counted;
             case 1:
-                return meter.sumOf(meter.allBits());
+                return tally.sumOf(tally.allBits());
             case 2:
-                return meter.waysWithout(0);
+                return tally.waysWithout(0);
             default:
-                return meter.thousandWithout(0);
+                return tally.thousandWithout(0);
         }
     }
 
@@ -375,7 +373,7 @@ public final class LookTimes {
         if (!within(limit, 1, THOUSAND)) {
             return NONE;
         }
-        meter.countAll();
+        tally.countAll();
         return hindsight.fewestToLeave(limit);
     }
 
@@ -383,16 +381,16 @@ public final class LookTimes {
         if (!within(house, 0, MAX_HOUSES - 1) || !within(what, 0, 1)) {
             return VOID;
         }
-        meter.countAll();
-        int bits = meter.houseBits(house);
-        return what == 0 ? Integer.bitCount(bits) : meter.sumOf(bits);
+        tally.countAll();
+        int bits = tally.houseBits(house);
+        return what == 0 ? Integer.bitCount(bits) : tally.sumOf(bits);
     }
 
     public int joined(int what) {
         if (!within(what, 0, 1)) {
             return NONE;
         }
-        meter.countAll();
+        tally.countAll();
         hindsight.withoutEachHouse();
         return what == 0 ? hindsight.least : hindsight.greatest;
     }
@@ -409,8 +407,8 @@ public final class LookTimes {
         if (!within(s, 0, MAX_SPREAD) || !within(l, 1, MAX_LONG)) {
             return refused(CAN_NOT);
         }
-        drawer.spreading = s;
-        drawer.longer = l;
+        teller.spreading = s;
+        teller.longer = l;
         return true;
     }
 
@@ -421,7 +419,7 @@ public final class LookTimes {
         if (!within(seed, 0, MAX_SEED)) {
             return refuse(CAN_NOT);
         }
-        return drawer.draw(law, seed);
+        return teller.drawWorld(law, seed);
     }
 
     public int worlds(int law, int seed, int n, int limit) {
@@ -434,9 +432,9 @@ public final class LookTimes {
         spare.take(lab);
         int found = 0;
         for (int i = 0; i < n; i++) {
-            drawer.draw(law, seed + i);
-            meter.countAll();
-            if (meter.thousandWithout(0) <= limit) {
+            teller.drawWorld(law, seed + i);
+            tally.countAll();
+            if (tally.thousandWithout(0) <= limit) {
                 found++;
             }
         }
@@ -487,21 +485,22 @@ public final class LookTimes {
         if (!program.hasLaw(law) || baby != NONE && !lab.hasBaby(baby)) {
             return NONE;
         }
-        return baby == NONE ? offOfAll(law) : offOf(law, baby);
+        tally.countAll();
+        return offFor(law, baby);
     }
 
     public int nearest(int baby) {
         if (baby != NONE && !lab.hasBaby(baby)) {
             return NONE;
         }
-        meter.countAll();
-        if (baby == NONE && meter.counted == 0) {
+        tally.countAll();
+        if (baby == NONE && tally.counted == 0) {
             return NONE;
         }
         int best = NONE;
         int least = 0;
         for (int law = 0; law < program.laws; law++) {
-            int off = apart(law, baby);
+            int off = offFor(law, baby);
             if (best == NONE || off < least) {
                 best = law;
                 least = off;
@@ -580,11 +579,14 @@ public final class LookTimes {
         return lab.hasBaby(baby) && stage.hasTrial(lab.plansOf[baby], trial);
     }
 
-    private int offOfAll(int law) {
-        meter.countAll();
+    /** OFF of a LAW for a BABY, or (baby NONE) for those that have been found COUNTED. */
+    private int offFor(int law, int baby) {
+        if (baby != NONE) {
+            return offOf(law, baby);
+        }
         int off = 0;
-        for (int i = 0; i < meter.counted; i++) {
-            off += offOf(law, meter.who[i]);
+        for (int i = 0; i < tally.counted; i++) {
+            off += offOf(law, tally.who[i]);
         }
         return off;
     }
@@ -610,9 +612,13 @@ public final class LookTimes {
         return Math.max(least, Math.min(most, n));
     }
 
-    /** The bytes fed so far. */
+    /** The bytes fed so far, and their TOKENS, up to the end or to the first byte that begins none. */
     private static final class Text {
-        final int[] bytes = new int[MAX_TEXT];
+        private final int[] bytes = new int[MAX_TEXT];
+        private final int[] codes = new int[MAX_TEXT + 1];
+        private final int[] starts = new int[MAX_TEXT + 1];
+        private final int[] ends = new int[MAX_TEXT + 1];
+        private int tokens;
         int size;
 
         void append(int four) {
@@ -621,50 +627,35 @@ public final class LookTimes {
                 size++;
             }
         }
-    }
-
-    /** The TOKENS of a text, up to its end or to the first byte that begins none. */
-    private static final class Tokens {
-        private final Text text;
-        private final int[] codes = new int[MAX_TEXT + 1];
-        private final int[] starts = new int[MAX_TEXT + 1];
-        private final int[] ends = new int[MAX_TEXT + 1];
-        private int size;
-
-        Tokens(Text text) {
-            this.text = text;
-        }
 
         void split() {
-            size = 0;
-            int place = 0;
-            while (place < text.size && size < MAX_TEXT) {
-                int b = text.bytes[place];
+            tokens = 0;
+            int behind = 0;
+            for (int place = 0; place < size; place = Math.max(place + 1, behind)) {
+                int b = bytes[place];
                 if (b == ' ' || b == '\n') {
-                    place++;
                     continue;
                 }
-                int behind = endOfToken(place);
+                behind = endOfToken(place);
                 if (behind == place) {
                     keep(NO_TOKEN, place, place);
                     return;
                 }
                 keep(codeOf(place, behind), place, behind);
-                place = behind;
             }
-            keep(TEXT_END, text.size, text.size);
+            keep(TEXT_END, size, size);
         }
 
         int code(int k) {
-            return k >= 0 && k < size ? codes[k] : TEXT_END;
+            return k >= 0 && k < tokens ? codes[k] : TEXT_END;
         }
 
         int start(int k) {
-            return k >= 0 && k < size ? starts[k] : text.size;
+            return k >= 0 && k < tokens ? starts[k] : size;
         }
 
         int wordSize(int k) {
-            return k >= 0 && k < size ? ends[k] - starts[k] : 0;
+            return k >= 0 && k < tokens ? ends[k] - starts[k] : 0;
         }
 
         boolean sameWords(int one, int other) {
@@ -673,7 +664,7 @@ public final class LookTimes {
                 return false;
             }
             for (int i = 0; i < letters; i++) {
-                if (text.bytes[start(one) + i] != text.bytes[start(other) + i]) {
+                if (bytes[start(one) + i] != bytes[start(other) + i]) {
                     return false;
                 }
             }
@@ -681,27 +672,27 @@ public final class LookTimes {
         }
 
         private void keep(int code, int start, int behind) {
-            if (size < codes.length) {
-                codes[size] = code;
-                starts[size] = start;
-                ends[size] = behind;
-                size++;
+            if (tokens < codes.length) {
+                codes[tokens] = code;
+                starts[tokens] = start;
+                ends[tokens] = behind;
+                tokens++;
             }
         }
 
         /** The place behind the TOKEN that begins at a place: that place itself if none begins there. */
         private int endOfToken(int place) {
-            int b = text.bytes[place];
+            int b = bytes[place];
             if (isSign(b)) {
                 return place + 1;
             }
             int behind = place;
             if (isLetter(b)) {
-                while (behind < text.size && isLetter(text.bytes[behind])) {
+                while (behind < size && isLetter(bytes[behind])) {
                     behind++;
                 }
             } else {
-                while (behind < text.size && isDigit(text.bytes[behind])) {
+                while (behind < size && isDigit(bytes[behind])) {
                     behind++;
                 }
             }
@@ -709,7 +700,7 @@ public final class LookTimes {
         }
 
         private int codeOf(int start, int behind) {
-            int b = text.bytes[start];
+            int b = bytes[start];
             if (isLetter(b)) {
                 return wordCode(start, behind);
             }
@@ -719,7 +710,7 @@ public final class LookTimes {
         private int numberCode(int start, int behind) {
             int value = 0;
             for (int i = start; i < behind; i++) {
-                value = value * 10 + text.bytes[i] - '0';
+                value = value * 10 + bytes[i] - '0';
                 if (value > MAX_NUMBER) {
                     return HUGE_NUMBER;
                 }
@@ -741,7 +732,7 @@ public final class LookTimes {
                 return false;
             }
             for (int i = 0; i < MAX_NAME; i++) {
-                int letter = start + i < behind ? text.bytes[start + i] : ' ';
+                int letter = start + i < behind ? bytes[start + i] : ' ';
                 if (WORDS.charAt(word * MAX_NAME + i) != letter) {
                     return false;
                 }
@@ -763,61 +754,60 @@ public final class LookTimes {
         }
     }
 
-    /** Finds the FAULT of a text, and writes the LAWS and CLAUSES of one without into a program. */
+    /** Finds the FAULT of the text, and drafts the LAWS and CLAUSES of one without. */
     private static final class Parser {
-        private final Tokens tokens;
+        private final Text text;
         private final int[] nameTokens = new int[MAX_LAWS];
-        private Program target;
         private int at;
+        final Program draft = new Program();
 
         Parser(Text text) {
-            tokens = new Tokens(text);
+            this.text = text;
         }
 
-        int faultOf(Program into) {
-            tokens.split();
-            target = into;
-            target.empty();
+        int findFault() {
+            text.split();
+            draft.empty();
             at = 0;
-            if (tokens.code(at) == TEXT_END) {
-                return tokens.start(at);
+            if (text.code(at) == TEXT_END) {
+                return text.start(at);
             }
-            for (int lines = 0; lines < MAX_TEXT && tokens.code(at) != TEXT_END; lines++) {
+            for (int lines = 0; lines < MAX_TEXT && text.code(at) != TEXT_END; lines++) {
                 if (!parseLine()) {
-                    return tokens.start(at);
+                    return text.start(at);
                 }
             }
             return NONE;
         }
 
         private boolean parseLine() {
-            int word = tokens.code(at);
-            if (word == LAW_WORD && target.laws < MAX_LAWS) {
+            int word = text.code(at);
+            if (word == LAW_WORD && draft.laws < MAX_LAWS) {
                 at++;
                 if (!parseNewName() || !parseToken(IS_WORD)) {
                     return false;
                 }
-                int start = target.size;
+                int start = draft.size;
                 if (!parseExpression(0) || !parseToken(FIRST_SIGN + ';')) {
                     return false;
                 }
-                target.addLaw(start);
+                draft.addLaw(start);
                 return true;
             }
-            if (word == OUT_WORD && target.clauses < MAX_CLAUSES) {
+            if (word == OUT_WORD && draft.clauses < MAX_CLAUSES) {
                 at++;
-                int start = target.size;
+                int start = draft.size;
                 if (!parseToken(IF_WORD) || !parseExpression(0) || !parseToken(FIRST_SIGN + ';')) {
                     return false;
                 }
-                target.addClause(start);
+                draft.addClause(start);
                 return true;
             }
             return false;
         }
 
         private boolean parseToken(int code) {
-            if (tokens.code(at) != code) {
+            if (text.code(at) != code) {
                 return false;
             }
             at++;
@@ -825,15 +815,15 @@ public final class LookTimes {
         }
 
         private boolean parseNewName() {
-            if (tokens.code(at) != OTHER_WORD || tokens.wordSize(at) > MAX_NAME) {
+            if (text.code(at) != OTHER_WORD || text.wordSize(at) > MAX_NAME) {
                 return false;
             }
-            for (int law = 0; law < target.laws; law++) {
-                if (tokens.sameWords(at, nameTokens[law])) {
+            for (int law = 0; law < draft.laws; law++) {
+                if (text.sameWords(at, nameTokens[law])) {
                     return false;
                 }
             }
-            nameTokens[target.laws] = at;
+            nameTokens[draft.laws] = at;
             at++;
             return true;
         }
@@ -842,7 +832,7 @@ public final class LookTimes {
             if (!parseSum(depth)) {
                 return false;
             }
-            int sign = tokens.code(at);
+            int sign = text.code(at);
             if (sign != FIRST_SIGN + '<' && sign != FIRST_SIGN + '=') {
                 return true;
             }
@@ -850,7 +840,7 @@ public final class LookTimes {
             if (!parseSum(depth)) {
                 return false;
             }
-            target.emit(sign);
+            draft.emit(sign);
             return true;
         }
 
@@ -859,7 +849,7 @@ public final class LookTimes {
                 return false;
             }
             for (int i = 0; i < MAX_TEXT; i++) {
-                int sign = tokens.code(at);
+                int sign = text.code(at);
                 if (sign != FIRST_SIGN + '+' && sign != FIRST_SIGN + '-') {
                     return true;
                 }
@@ -867,7 +857,7 @@ public final class LookTimes {
                 if (!parseProduct(depth)) {
                     return false;
                 }
-                target.emit(sign);
+                draft.emit(sign);
             }
             return true;
         }
@@ -877,7 +867,7 @@ public final class LookTimes {
                 return false;
             }
             for (int i = 0; i < MAX_TEXT; i++) {
-                int sign = tokens.code(at);
+                int sign = text.code(at);
                 if (sign != FIRST_SIGN + '*' && sign != FIRST_SIGN + '/') {
                     return true;
                 }
@@ -885,15 +875,15 @@ public final class LookTimes {
                 if (!parseFactor(depth)) {
                     return false;
                 }
-                target.emit(sign);
+                draft.emit(sign);
             }
             return true;
         }
 
         private boolean parseFactor(int depth) {
-            int code = tokens.code(at);
+            int code = text.code(at);
             if (code < FIRST_WORD + NAMES) {
-                target.emit(code);
+                draft.emit(code);
                 at++;
                 return true;
             }
@@ -993,20 +983,22 @@ public final class LookTimes {
         }
 
         private static int joinBy(int sign, int one, int other) {
-            switch (sign) {
-                case '+':
-                    return brought(one + other, -MAX_WORKED, MAX_WORKED);
-                case '-':
-                    return brought(one - other, -MAX_WORKED, MAX_WORKED);
-                case '*':
-                    return (int) Math.max(-MAX_WORKED, Math.min(MAX_WORKED, (long) one * other));
-                case '/':
-                    return other == 0 ? 0 : one / other;
-                case '<':
-                    return one < other ? 1 : 0;
-                default:
-                    return one == other ? 1 : 0;
+            long worked = one == other ? 1 : 0;
+            if (sign == '+') {
+                worked = (long) one + other;
+            } else if (sign == '-') {
+                worked = (long) one - other;
+            } else if (sign == '*') {
+                worked = (long) one * other;
+            } else if (sign == '/') {
+                worked = other == 0 ? 0 : one / other;
+            } else if (sign == '<') {
+                worked = one < other ? 1 : 0;
             }
+            if (worked > MAX_WORKED) {
+                return MAX_WORKED;
+            }
+            return worked < -MAX_WORKED ? -MAX_WORKED : (int) worked;
         }
     }
 
@@ -1142,8 +1134,9 @@ public final class LookTimes {
             criedFrom[babies] = NONE;
             left[babies] = false;
             // A restored IMAGE may have fewer BABIES than there were: their old GAZES still lie here.
-            int from = babies * MAX_TRIALS;
-            Arrays.fill(gazeSizes, from, from + MAX_TRIALS, 0);
+            for (int trial = 0; trial < MAX_TRIALS; trial++) {
+                gazeSizes[babies * MAX_TRIALS + trial] = 0;
+            }
             babies++;
             return babies - 1;
         }
@@ -1166,7 +1159,9 @@ public final class LookTimes {
         }
 
         void clearGazes() {
-            Arrays.fill(gazeSizes, 0);
+            for (int place = 0; place < gazeSizes.length; place++) {
+                gazeSizes[place] = 0;
+            }
         }
 
         boolean isCrying(int baby, int trial) {
@@ -1174,15 +1169,20 @@ public final class LookTimes {
         }
     }
 
-    /** What LAWS SAY of rows of SCREENS. */
+    /** What LAWS SAY of rows of SCREENS, and the WORLDS drawn by it. */
     private static final class Teller {
         private final Stage stage;
+        private final Lab lab;
         private final Program program;
         private final int[] named = new int[NAMES];
+        private int x;
         final int[] said = new int[MAX_TRIALS];
+        int spreading;
+        int longer = 1;
 
-        Teller(Stage stage, Program program) {
+        Teller(Stage stage, Lab lab, Program program) {
             this.stage = stage;
+            this.lab = lab;
             this.program = program;
         }
 
@@ -1231,24 +1231,48 @@ public final class LookTimes {
         static int signOf(int a, int m, int b, int n) {
             return m == 0 || n == 0 ? 2 : Integer.compare(a * n, b * m);
         }
+
+        /** Draws a WORLD of a LAW (or none) in place of all GAZES: how many LOOKS. */
+        int drawWorld(int law, int seed) {
+            x = seed;
+            int looks = 0;
+            lab.clearGazes();
+            for (int baby = 0; baby < lab.babies; baby++) {
+                int plan = lab.plansOf[baby];
+                tellPlan(law, plan, lab.ages[baby]);
+                for (int trial = 0; trial < stage.sizes[plan] && !lab.isCrying(baby, trial); trial++) {
+                    lab.addLength(baby, trial, drawLook(said[trial]));
+                    looks++;
+                }
+            }
+            return looks;
+        }
+
+        private int drawLook(int usual) {
+            int look = usual + lot(2 * spreading + 1) - spreading;
+            if (lot(16) == 0) {
+                look *= longer;
+            }
+            return brought(look, 1, LONGEST);
+        }
+
+        private int lot(int n) {
+            x = (int) ((x * 1103515245L + 12345L) & 2147483647L);
+            return n > 0 ? x / 256 % n : 0;
+        }
     }
 
-    /** LENGTHS, READINGS, who is OUT, DIFFERENCES, who is COUNTED, and ODDS of them. */
+    /** LENGTHS, READINGS, who is OUT, DIFFERENCES. */
     private static final class Meter {
         private final Stage stage;
         private final Lab lab;
         private final Program program;
-        private final Signs signs = new Signs();
         private final int[] named = new int[NAMES];
-        private final int[] chosen = new int[MAX_BABIES];
-        private final int[] differences = new int[MAX_BABIES];
         private final int[] lengths = new int[MAX_TRIALS];
         private int trials;
         private int total;
         private int longest;
         private int present;
-        final int[] who = new int[MAX_BABIES];
-        int counted;
 
         Meter(Stage stage, Lab lab, Program program) {
             this.stage = stage;
@@ -1394,6 +1418,25 @@ public final class LookTimes {
             }
             return n == 0 ? NONE : sum / n;
         }
+    }
+
+    /** Who is COUNTED, their SUMS and ODDS. */
+    private static final class Odds {
+        private static final int HALF = 256;
+        private final Lab lab;
+        private final Meter meter;
+        private final int[] differences = new int[MAX_BABIES];
+        private final int[] chosen = new int[MAX_BABIES];
+        private final int[] low = new int[HALF];
+        private final int[] high = new int[HALF];
+        private final int[] before = new int[HALF];
+        final int[] who = new int[MAX_BABIES];
+        int counted;
+
+        Odds(Lab lab, Meter meter) {
+            this.lab = lab;
+            this.meter = meter;
+        }
 
         /** Finds who is COUNTED: what asks for bits, sums and ODDS goes by these. */
         void countAll() {
@@ -1402,9 +1445,9 @@ public final class LookTimes {
                 if (lab.left[baby]) {
                     continue;
                 }
-                measure(baby);
-                int difference = differenceOf(baby);
-                if (difference != VOID && clauseAgainst(baby) == NONE) {
+                meter.measure(baby);
+                int difference = meter.differenceOf(baby);
+                if (difference != VOID && meter.clauseAgainst(baby) == NONE) {
                     who[counted] = baby;
                     differences[counted] = difference;
                     counted++;
@@ -1441,12 +1484,12 @@ public final class LookTimes {
         }
 
         int waysWithout(int bits) {
-            return signs.waysOf(chosen, choose(bits));
+            return waysOf(choose(bits));
         }
 
         int thousandWithout(int bits) {
             int n = choose(bits);
-            return THOUSAND * signs.waysOf(chosen, n) >> n;
+            return THOUSAND * waysOf(n) >> n;
         }
 
         private int choose(int bits) {
@@ -1459,22 +1502,15 @@ public final class LookTimes {
             }
             return n;
         }
-    }
 
-    /**
-     * ODDS as ways. Turning some signs takes twice the turned ones from the SUM, so at least the SUM stays
-     * just if the turned ones together are 0 or less: these sets are counted, by the sums of two halves in order.
-     */
-    private static final class Signs {
-        private static final int HALF = 256;
-        private final int[] low = new int[HALF];
-        private final int[] high = new int[HALF];
-        private final int[] before = new int[HALF];
-
-        int waysOf(int[] values, int n) {
+        /**
+         * Turning some signs takes twice the turned ones from the SUM, so at least the SUM stays just if the
+         * turned ones together are 0 or less: such sets are counted, by the sums of two halves in order.
+         */
+        private int waysOf(int n) {
             int middle = n / 2;
-            int lows = gather(values, 0, middle, low);
-            int highs = gather(values, middle, n, high);
+            int lows = gather(0, middle, low);
+            int highs = gather(middle, n, high);
             int ways = 0;
             int fit = highs;
             for (int i = 0; i < lows; i++) {
@@ -1486,12 +1522,12 @@ public final class LookTimes {
             return ways;
         }
 
-        /** Puts the sums of all sets of some values into a row, least first: how many there are. */
-        private int gather(int[] values, int from, int behind, int[] sums) {
+        /** Puts the sums of all sets of some chosen DIFFERENCES into a row, least first: how many there are. */
+        private int gather(int from, int behind, int[] sums) {
             sums[0] = 0;
             int size = 1;
             for (int i = from; i < behind && size < HALF; i++) {
-                addValue(values[i], sums, size);
+                addValue(chosen[i], sums, size);
                 size *= 2;
             }
             return size;
@@ -1516,7 +1552,7 @@ public final class LookTimes {
     /** ODDS after knowing: other RULES, READINGS and LEANS, or without some BABIES. */
     private static final class Hindsight {
         private final Lab lab;
-        private final Meter meter;
+        private final Odds tally;
         int bestW;
         int bestMost;
         int bestReading;
@@ -1526,9 +1562,9 @@ public final class LookTimes {
         int greatest;
         private int bestShare;
 
-        Hindsight(Lab lab, Meter meter) {
+        Hindsight(Lab lab, Odds tally) {
             this.lab = lab;
-            this.meter = meter;
+            this.tally = tally;
         }
 
         void lookBack() {
@@ -1552,14 +1588,14 @@ public final class LookTimes {
         private void tryReadings() {
             for (int reading = 0; reading < READINGS; reading++) {
                 lab.readBy = reading;
-                meter.countAll();
-                int ways = meter.waysWithout(0);
-                int thousand = THOUSAND * ways >> meter.counted;
+                tally.countAll();
+                int ways = tally.waysWithout(0);
+                int thousand = THOUSAND * ways >> tally.counted;
                 if (thousand < RARE) {
                     rare++;
                 }
                 // Of all that could be COUNTED, so that fractions are compared as whole numbers.
-                int share = ways << (MAX_BABIES - meter.counted);
+                int share = ways << (MAX_BABIES - tally.counted);
                 if (bestShare == NONE || share < bestShare) {
                     bestShare = share;
                     bestW = lab.w;
@@ -1572,7 +1608,7 @@ public final class LookTimes {
 
         /** LEAVING, of BABIES that have been counted: bits, NONE without. */
         int fewestToLeave(int limit) {
-            if (meter.thousandWithout(0) < limit) {
+            if (tally.thousandWithout(0) < limit) {
                 return 0;
             }
             int bits = oneToLeave(limit);
@@ -1584,9 +1620,9 @@ public final class LookTimes {
 
         // The highest number goes slowest in each, so that the least bits come first.
         private int oneToLeave(int limit) {
-            for (int i = 0; i < meter.counted; i++) {
-                int bits = 1 << meter.who[i];
-                if (meter.thousandWithout(bits) < limit) {
+            for (int i = 0; i < tally.counted; i++) {
+                int bits = 1 << tally.who[i];
+                if (tally.thousandWithout(bits) < limit) {
                     return bits;
                 }
             }
@@ -1594,10 +1630,10 @@ public final class LookTimes {
         }
 
         private int twoToLeave(int limit) {
-            for (int j = 1; j < meter.counted; j++) {
+            for (int j = 1; j < tally.counted; j++) {
                 for (int i = 0; i < j; i++) {
-                    int bits = 1 << meter.who[j] | 1 << meter.who[i];
-                    if (meter.thousandWithout(bits) < limit) {
+                    int bits = 1 << tally.who[j] | 1 << tally.who[i];
+                    if (tally.thousandWithout(bits) < limit) {
                         return bits;
                     }
                 }
@@ -1606,11 +1642,11 @@ public final class LookTimes {
         }
 
         private int threeToLeave(int limit) {
-            for (int k = 2; k < meter.counted; k++) {
+            for (int k = 2; k < tally.counted; k++) {
                 for (int j = 1; j < k; j++) {
                     for (int i = 0; i < j; i++) {
-                        int bits = 1 << meter.who[k] | 1 << meter.who[j] | 1 << meter.who[i];
-                        if (meter.thousandWithout(bits) < limit) {
+                        int bits = 1 << tally.who[k] | 1 << tally.who[j] | 1 << tally.who[i];
+                        if (tally.thousandWithout(bits) < limit) {
                             return bits;
                         }
                     }
@@ -1621,27 +1657,27 @@ public final class LookTimes {
 
         /** JOINED, of BABIES that have been counted: least and greatest, NONE without. */
         void withoutEachHouse() {
-            forget();
+            noticeNone();
             for (int house = 0; house < MAX_HOUSES; house++) {
-                int bits = meter.houseBits(house);
+                int bits = tally.houseBits(house);
                 if (bits != 0) {
-                    notice(meter.thousandWithout(bits));
+                    notice(tally.thousandWithout(bits));
                 }
             }
         }
 
         void leanAll(int l) {
             int leaning = lab.leaning;
-            forget();
+            noticeNone();
             for (int lean = -l; lean <= l; lean++) {
                 lab.leaning = lean;
-                meter.countAll();
-                notice(meter.thousandWithout(0));
+                tally.countAll();
+                notice(tally.thousandWithout(0));
             }
             lab.leaning = leaning;
         }
 
-        private void forget() {
+        private void noticeNone() {
             least = NONE;
             greatest = NONE;
         }
@@ -1649,50 +1685,6 @@ public final class LookTimes {
         private void notice(int thousand) {
             least = least == NONE ? thousand : Math.min(least, thousand);
             greatest = Math.max(greatest, thousand);
-        }
-    }
-
-    /** Draws WORLDS by LOTS. */
-    private static final class Drawer {
-        private final Stage stage;
-        private final Lab lab;
-        private final Teller teller;
-        private int x;
-        int spreading;
-        int longer = 1;
-
-        Drawer(Stage stage, Lab lab, Teller teller) {
-            this.stage = stage;
-            this.lab = lab;
-            this.teller = teller;
-        }
-
-        int draw(int law, int seed) {
-            x = seed;
-            int looks = 0;
-            lab.clearGazes();
-            for (int baby = 0; baby < lab.babies; baby++) {
-                int plan = lab.plansOf[baby];
-                teller.tellPlan(law, plan, lab.ages[baby]);
-                for (int trial = 0; trial < stage.sizes[plan] && !lab.isCrying(baby, trial); trial++) {
-                    lab.addLength(baby, trial, drawLook(teller.said[trial]));
-                    looks++;
-                }
-            }
-            return looks;
-        }
-
-        private int drawLook(int said) {
-            int look = said + lot(2 * spreading + 1) - spreading;
-            if (lot(16) == 0) {
-                look *= longer;
-            }
-            return brought(look, 1, LONGEST);
-        }
-
-        private int lot(int n) {
-            x = (int) ((x * 1103515245L + 12345L) & 2147483647L);
-            return n > 0 ? x / 256 % n : 0;
         }
     }
 
@@ -1706,8 +1698,9 @@ public final class LookTimes {
         private final int[] odd = new int[MAX_ROW + 1];
         private final int[] sums = new int[(MAX_ROW + 1) * MAX_LAWS];
         private final int[] oddSums = new int[(MAX_ROW + 1) * MAX_LAWS];
-        private int size;
+        private int most;
         private int age;
+        private int size;
         private int enough;
         final int[] best = new int[MAX_ROW];
         int bestSize;
@@ -1719,14 +1712,23 @@ public final class LookTimes {
             this.teller = teller;
         }
 
+        /** What was found no longer holds: SCREENS, LIKES or LAWS are others. */
+        void forget() {
+            most = 0;
+        }
+
         void find(int m, int forAge) {
+            if (m == most && forAge == age) {
+                return;
+            }
+            most = m;
             age = forAge;
             couples = NONE;
             bestSize = 0;
             // Signs make three heaps at most: no more couples than this are ever parted.
             enough = program.laws * program.laws / 3;
-            Arrays.fill(used, false);
-            for (size = MIN_ROW; size <= m && size <= stage.screens && couples < enough; size++) {
+            for (int n = MIN_ROW; n <= m && n <= stage.screens && couples < enough; n++) {
+                size = n;
                 extend(0);
             }
         }
