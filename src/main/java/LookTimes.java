@@ -123,7 +123,7 @@ public final class LookTimes {
 
     public boolean end(int n) {
         if (n < 0 || n > text.size) {
-            return refused(CAN_NOT);
+            return deny(CAN_NOT);
         }
         text.size = n;
         return true;
@@ -146,10 +146,10 @@ public final class LookTimes {
 
     public boolean liked(int kind, int much) {
         if (!within(kind, 0, MAX_KINDS - 1)) {
-            return refused(NO_SUCH);
+            return deny(NO_SUCH);
         }
         if (!within(much, 0, MAX_LIKED)) {
-            return refused(CAN_NOT);
+            return deny(CAN_NOT);
         }
         stage.likes[kind] = much;
         finder.forget();
@@ -249,7 +249,7 @@ public final class LookTimes {
 
     public boolean cried(int baby, int trial) {
         if (!lab.hasBaby(baby) || trial != NONE && !hasBabyTrial(baby, trial)) {
-            return refused(NO_SUCH);
+            return deny(NO_SUCH);
         }
         lab.criedFrom[baby] = trial;
         return true;
@@ -257,7 +257,7 @@ public final class LookTimes {
 
     public boolean rule(int w, int most, int least) {
         if (!within(w, 1, 100) || !within(most, 10, LONGEST) || !within(least, 0, 100)) {
-            return refused(CAN_NOT);
+            return deny(CAN_NOT);
         }
         lab.w = w;
         lab.most = most;
@@ -267,7 +267,7 @@ public final class LookTimes {
 
     public boolean lean(int lean) {
         if (!within(lean, -MAX_LEAN, MAX_LEAN)) {
-            return refused(CAN_NOT);
+            return deny(CAN_NOT);
         }
         lab.leaning = lean;
         return true;
@@ -275,7 +275,7 @@ public final class LookTimes {
 
     public boolean reading(int reading, int cap) {
         if (!within(reading, 0, READINGS - 1) || !within(cap, 10, LONGEST)) {
-            return refused(CAN_NOT);
+            return deny(CAN_NOT);
         }
         lab.readBy = reading;
         lab.cap = cap;
@@ -316,10 +316,10 @@ public final class LookTimes {
 
     public boolean leave(int baby, boolean left) {
         if (!lab.hasBaby(baby)) {
-            return refused(NO_SUCH);
+            return deny(NO_SUCH);
         }
         if (lab.left[baby] == left) {
-            return refused(CAN_NOT);
+            return deny(CAN_NOT);
         }
         lab.left[baby] = left;
         return true;
@@ -405,7 +405,7 @@ public final class LookTimes {
 
     public boolean spread(int s, int l) {
         if (!within(s, 0, MAX_SPREAD) || !within(l, 1, MAX_LONG)) {
-            return refused(CAN_NOT);
+            return deny(CAN_NOT);
         }
         teller.spreading = s;
         teller.longer = l;
@@ -511,7 +511,7 @@ public final class LookTimes {
 
     public boolean book(int babies) {
         if (!within(babies, 0, MAX_BABIES)) {
-            return refused(CAN_NOT);
+            return deny(CAN_NOT);
         }
         journal.write(lab, babies);
         return true;
@@ -523,7 +523,7 @@ public final class LookTimes {
 
     public boolean image(int k) {
         if (!within(k, 0, MAX_IMAGES - 1)) {
-            return refused(NO_SUCH);
+            return deny(NO_SUCH);
         }
         if (images[k] == null) {
             images[k] = new Lab();
@@ -534,7 +534,7 @@ public final class LookTimes {
 
     public boolean restore(int k) {
         if (!within(k, 0, MAX_IMAGES - 1) || images[k] == null) {
-            return refused(NO_SUCH);
+            return deny(NO_SUCH);
         }
         lab.take(images[k]);
         return true;
@@ -570,7 +570,7 @@ public final class LookTimes {
         return NONE;
     }
 
-    private boolean refused(int reason) {
+    private boolean deny(int reason) {
         refusals[reason]++;
         return false;
     }

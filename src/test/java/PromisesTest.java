@@ -212,6 +212,10 @@ public final class PromisesTest {
         fault("law ab is 1;law b is 1;law ab is 1;", 27);
         fault("law a is a;", 9);
         fault("law a is odds;", 9);
+        fault("law a is od;", 9);
+        fault("law a is add;", 9);
+        fault("law a is age9;", 12);
+        fault("law add is 1;law xyz is 2;", NONE);
         fault("law odds is 1;", NONE);
         fault("lawa is 1;", 0);
         fault("law a is9;", NONE);
@@ -839,6 +843,23 @@ public final class PromisesTest {
         due("ODDS as a fraction", fine.after(0), 40);
         due("ODDS then", fine.after(3), 0);
         due("below 50", fine.after(4), 48);
+        // 13 of 256 ways are 50 of 1000 by READINGS 0 and 1; by digits 9 are 35, by the greatest 26 are 101.
+        LookTimes edge = planned(0, 1);
+        for (int difference : new int[] {31, 15, 27, 22, 36, 40, 18, -42}) {
+            looks(edge, 0, 20, 60, 60 + difference);
+        }
+        due("50 of 1000", edge.odds(3), 50);
+        due("isn't below 50", edge.after(4), 12);
+        due("the READING", edge.after(2), 2);
+        due("ODDS then", edge.after(3), 35);
+        // MOST 150 puts one OUT: 2 of 4 ways; MOST 300 doesn't: 2 of 8.
+        LookTimes fewer = planned(0, 1);
+        looks(fewer, 0, 20, 100, 140);
+        looks(fewer, 0, 20, 100, 100);
+        looks(fewer, 0, 20, 5, 200);
+        Check.laws(fewer, "out if total<160;");
+        due("fractions of other numbers of BABIES", fewer.after(1), 300);
+        due("ODDS then", fewer.after(3), 250);
     }
 
     private static void leavings() {
@@ -863,6 +884,17 @@ public final class PromisesTest {
         due("both", z.leaving(63), 12);
         due("the least bits of like ones", z.leaving(300), 4);
         due("ODDS of all", z.odds(3), (22 * 1000) / 64);
+        int[] fives = {5, 5, 5, 5, 5, 5, 5, 5, 5, 5};
+        due("limit 1: below it is 0", differing(fives).leaving(1), 0);
+        LookTimes one = differing(-30, 10, 20);
+        due("the first BABY: 1 of 4 ways is below 251", one.leaving(251), 1);
+        due("250 isn't below 250", one.leaving(250), NONE);
+        LookTimes two = differing(-9, -9, 1, 1, 1, 1);
+        due("the first two: 1 of 16", two.leaving(63), 3);
+        due("62 isn't below 62", two.leaving(62), NONE);
+        LookTimes three = differing(-9, -9, -9, 1, 1, 1, 1, 1, 1);
+        due("the first three: 1 of 64", three.leaving(16), 7);
+        due("15 isn't below 15", three.leaving(15), NONE);
         LookTimes four = differing(-9, -9, -9, -9, 1, 1, 1, 1, 1, 1, 1);
         due("four would have to", four.leaving(8), NONE);
     }
@@ -1359,6 +1391,29 @@ public final class PromisesTest {
         due("DIFFERENCE", x.difference(0), 200 * 2 - 150);
         due("a BABY has the PLAN", x.trial(0, 2), NONE);
         refusals(x, 0, 0, 1);
+        LookTimes y = planned(0, 1);
+        y.plan();
+        y.trial(1, 2);
+        y.image(0);
+        y.baby(0, 3, 40);
+        y.leave(0, true);
+        y.image(1);
+        y.restore(0);
+        y.baby(1, 4, 50);
+        y.image(2);
+        y.restore(1);
+        Check.laws(y, "out if age=40;out if house=3;");
+        due("AGE", y.out(0, 1), 0);
+        due("its PLAN", y.gaze(0, 1, 9), 1);
+        due("LEFT", y.count(6), 1);
+        Check.laws(y, "out if house=3;");
+        due("HOUSE", y.out(0, 1), 0);
+        y.restore(2);
+        due("the other's HOUSE", y.out(0, 1), NONE);
+        due("the other's PLAN", y.gaze(0, 1, 9), NONE);
+        due("LEFT", y.count(6), 0);
+        Check.laws(y, "out if age=50;");
+        due("the other's AGE", y.out(0, 1), 0);
     }
 
     private static void statuses() {
