@@ -64,46 +64,6 @@ public final class PromisesTest {
         due("refused, it can't be otherwise", x.status(2), other);
     }
 
-    /** SCREENS 0 (2 dolls, as they must be), 1 (odd, 1 doll), 2 (as they must be, 5), 3 (odd, 5). */
-    private static LookTimes staged() {
-        LookTimes x = new LookTimes();
-        x.screen(1, 1, 2, 0);
-        x.screen(1, 1, 1, 1);
-        x.screen(7, -2, 5, 2);
-        x.screen(4, 0, 5, 3);
-        return x;
-    }
-
-    /** A PLAN with these SCREENS. */
-    private static LookTimes planned(int... screens) {
-        LookTimes x = staged();
-        int plan = x.plan();
-        for (int screen : screens) {
-            x.trial(plan, screen);
-        }
-        return x;
-    }
-
-    /** One BABY of PLAN 0 with one LOOK a TRIAL; 0 for none. */
-    private static int looks(LookTimes x, int house, int age, int... lengths) {
-        int baby = x.baby(0, house, age);
-        for (int trial = 0; trial < lengths.length; trial++) {
-            if (lengths[trial] > 0) {
-                x.gaze(baby, trial, lengths[trial]);
-            }
-        }
-        return baby;
-    }
-
-    /** BABIES of a PLAN of SCREENS 0 and 1 whose DIFFERENCES (at first) are these. */
-    private static LookTimes differing(int... differences) {
-        LookTimes x = planned(0, 1);
-        for (int i = 0; i < differences.length; i++) {
-            looks(x, i % 6, 8 + i, 300, 300 + differences[i]);
-        }
-        return x;
-    }
-
     private static void newObject(LookTimes x) {
         promise = "1";
         for (int what = 0; what <= 6; what++) {
@@ -116,7 +76,7 @@ public final class PromisesTest {
         due("NONE", LookTimes.NONE, -1);
         due("VOID", LookTimes.VOID, -2147483648L);
         // First values: W 20, MOST 600, LEAST 0, LEAN 0, READING 0, CAP 200, SPREAD 0, LONG 1, LIKED 0.
-        LookTimes y = planned(1, 0);
+        LookTimes y = Scene.planned(1, 0);
         int baby = y.baby(0, 0, 20);
         y.gaze(baby, 0, 1);
         y.gaze(baby, 0, 19);
@@ -133,8 +93,8 @@ public final class PromisesTest {
         due("LIKED is 0", y.says(0, 0, 0, 20), 0);
         y.world(NONE, 3);
         due("SPREAD is 0, LONG 1", y.length(0, 0) + y.length(0, 1), 200);
-        LookTimes z = planned(0);
-        looks(z, 0, 8, 599);
+        LookTimes z = Scene.planned(0);
+        Scene.looks(z, 0, 8, 599);
         z.gaze(0, 0, 1);
         z.gaze(0, 0, 599);
         due("MOST is 600", z.length(0, 0), 600);
@@ -264,7 +224,7 @@ public final class PromisesTest {
 
     private static void lawsInPlace() {
         promise = "5";
-        LookTimes x = planned(0);
+        LookTimes x = Scene.planned(0);
         due("laws() without a LINE", x.laws(), NONE);
         refusals(x, 0, 0, 1);
         due("two LAWS", Check.laws(x, "law a is 1;out if 0;law b is 2;"), 2);
@@ -284,7 +244,7 @@ public final class PromisesTest {
 
     private static void likes() {
         promise = "6";
-        LookTimes x = planned(0, 2);
+        LookTimes x = Scene.planned(0, 2);
         Check.laws(x, "law a is liked;");
         yes("liked(0, 99)", x.liked(0, 99));
         yes("liked(2, 7)", x.liked(2, 7));
@@ -343,7 +303,7 @@ public final class PromisesTest {
 
     private static void plansAndTrials() {
         promise = "9";
-        LookTimes x = staged();
+        LookTimes x = Scene.staged();
         for (int i = 0; i < 4; i++) {
             due("plan()", x.plan(), i);
             due("without TRIALS", x.row(i, NONE), 0);
@@ -385,7 +345,7 @@ public final class PromisesTest {
 
     private static void babies() {
         promise = "12";
-        LookTimes x = planned(0);
+        LookTimes x = Scene.planned(0);
         due("house too low", x.baby(0, -1, 20), NONE);
         due("house too high", x.baby(0, 6, 20), NONE);
         due("age too low", x.baby(0, 0, 7), NONE);
@@ -408,7 +368,7 @@ public final class PromisesTest {
 
     private static void gazes() {
         promise = "13";
-        LookTimes x = planned(0, 1);
+        LookTimes x = Scene.planned(0, 1);
         x.baby(0, 0, 20);
         for (int i = 1; i <= 8; i++) {
             due("gaze", x.gaze(0, 1, i == 1 ? 600 : 1), i);
@@ -428,8 +388,8 @@ public final class PromisesTest {
 
     private static void crying() {
         promise = "14";
-        LookTimes x = planned(0, 1, 0);
-        looks(x, 0, 20, 100, 200, 300);
+        LookTimes x = Scene.planned(0, 1, 0);
+        Scene.looks(x, 0, 20, 100, 200, 300);
         yes("cried(0, 1)", x.cried(0, 1));
         due("ahead", x.length(0, 0), 100);
         due("from it on", x.length(0, 1), NONE);
@@ -467,8 +427,8 @@ public final class PromisesTest {
 
     private static void leans() {
         promise = "16";
-        LookTimes x = planned(1, 0);
-        looks(x, 0, 20, 30, 30);
+        LookTimes x = Scene.planned(1, 0);
+        Scene.looks(x, 0, 20, 30, 30);
         yes("lean(-50)", x.lean(-50));
         due("brought to 0", x.length(0, 0), 0);
         due("not ODD", x.length(0, 1), 30);
@@ -480,8 +440,8 @@ public final class PromisesTest {
         due("still", x.length(0, 0), 80);
         yes("lean(0)", x.lean(0));
         due("without", x.length(0, 0), 30);
-        LookTimes y = planned(1);
-        looks(y, 0, 20, 580);
+        LookTimes y = Scene.planned(1);
+        Scene.looks(y, 0, 20, 580);
         y.rule(20, 560, 0);
         y.lean(50);
         due("brought to 600, over MOST", y.length(0, 0), 600);
@@ -493,8 +453,8 @@ public final class PromisesTest {
 
     private static void readings() {
         promise = "17";
-        LookTimes x = planned(0);
-        looks(x, 0, 20, 500);
+        LookTimes x = Scene.planned(0);
+        Scene.looks(x, 0, 20, 500);
         yes("reading(1, 10)", x.reading(1, 10));
         due("CAP 10", x.read(0, 0), 10);
         yes("reading(3, 600)", x.reading(3, 600));
@@ -511,15 +471,6 @@ public final class PromisesTest {
         due("CAP 600", x.read(0, 0), 500);
     }
 
-    private static LookTimes gazed(int... lengths) {
-        LookTimes x = planned(0, 0);
-        x.baby(0, 0, 20);
-        for (int length : lengths) {
-            x.gaze(0, 0, length);
-        }
-        return x;
-    }
-
     private static void length(LookTimes x, int w, int most, int least, int want) {
         x.rule(w, most, least);
         due("length by " + w + ", " + most + ", " + least, x.length(0, 0), want);
@@ -527,7 +478,7 @@ public final class PromisesTest {
 
     private static void lengths() {
         promise = "18";
-        LookTimes x = gazed(100, 10, 50, 30, 70, 40, 5);
+        LookTimes x = Scene.gazed(100, 10, 50, 30, 70, 40, 5);
         length(x, 10, 600, 0, 100);
         length(x, 11, 600, 0, 150);
         length(x, 30, 600, 0, 150);
@@ -542,7 +493,7 @@ public final class PromisesTest {
         // LEAST 71: 10 + 50 + 30 + 70 + 40 + 5 is AWAY behind the only LOOK.
         length(x, 1, 600, 71, 100);
         length(x, 1, 600, 100, 100);
-        LookTimes y = gazed(5, 90, 60, 3, 6, 3, 60);
+        LookTimes y = Scene.gazed(5, 90, 60, 3, 6, 3, 60);
         length(y, 20, 600, 0, 5);
         // AWAY ahead of every LOOK ends nothing.
         length(y, 20, 600, 6, 126);
@@ -557,14 +508,14 @@ public final class PromisesTest {
         due("no such BABY", y.length(1, 0), NONE);
         due("no such BABY", y.length(-1, 0), NONE);
         refusals(y, 0, 0, 0);
-        length(gazed(300, 5, 300, 5, 300, 5, 300, 5), 20, 600, 0, 600);
-        length(gazed(300, 5, 100, 5, 100, 5, 50, 5), 20, 600, 0, 550);
+        length(Scene.gazed(300, 5, 300, 5, 300, 5, 300, 5), 20, 600, 0, 600);
+        length(Scene.gazed(300, 5, 100, 5, 100, 5, 50, 5), 20, 600, 0, 550);
     }
 
     private static void reads() {
         promise = "19";
-        LookTimes x = planned(0, 1, 0, 1);
-        looks(x, 0, 20, 255, 256, 0, 10);
+        LookTimes x = Scene.planned(0, 1, 0, 1);
+        Scene.looks(x, 0, 20, 255, 256, 0, 10);
         due("READING 0", x.read(0, 0), 255);
         x.reading(1, 255);
         due("under CAP", x.read(0, 0), 255);
@@ -587,15 +538,15 @@ public final class PromisesTest {
         x.reading(2, 200);
         due("0 has no digit", x.read(0, 3), 0);
         x.reading(3, 200);
-        LookTimes y = planned(1);
-        looks(y, 0, 20, 10);
+        LookTimes y = Scene.planned(1);
+        Scene.looks(y, 0, 20, 10);
         y.lean(-50);
         y.reading(3, 200);
         due("the greatest is 0", y.read(0, 0), 0);
     }
 
     private static int worked(String e) {
-        LookTimes x = planned(1, 0, 0);
+        LookTimes x = Scene.planned(1, 0, 0);
         x.liked(0, 44);
         Check.laws(x, "law a is " + e + ";");
         return x.says(0, 0, 2, 33);
@@ -603,7 +554,7 @@ public final class PromisesTest {
 
     private static void says() {
         promise = "20";
-        LookTimes x = planned(0, 1, 3, 2, 0, 0);
+        LookTimes x = Scene.planned(0, 1, 3, 2, 0, 0);
         x.liked(0, 9);
         x.liked(1, 10);
         x.liked(2, 11);
@@ -665,8 +616,8 @@ public final class PromisesTest {
 
     private static void outs() {
         promise = "21";
-        LookTimes x = planned(0, 1, 0);
-        looks(x, 3, 30, 100, 250, 0);
+        LookTimes x = Scene.planned(0, 1, 0);
+        Scene.looks(x, 3, 30, 100, 250, 0);
         due("without CLAUSES", x.out(0, 0), 0);
         due("without CLAUSES", x.out(0, 1), NONE);
         String[] same = {"total=350", "longest=250", "trials=2", "age=30", "house=3"};
@@ -696,7 +647,7 @@ public final class PromisesTest {
 
     private static void leaves() {
         promise = "22";
-        LookTimes x = differing(10, 20);
+        LookTimes x = Scene.differing(10, 20);
         yes("leave(1, true)", x.leave(1, true));
         due("LEFT", x.count(6), 1);
         due("not COUNTED", x.odds(1), 10);
@@ -713,8 +664,8 @@ public final class PromisesTest {
 
     private static void differences() {
         promise = "23";
-        LookTimes x = planned(0, 1, 0, 1, 0);
-        looks(x, 0, 20, 10, 100, 20, 200, 60);
+        LookTimes x = Scene.planned(0, 1, 0, 1, 0);
+        Scene.looks(x, 0, 20, 10, 100, 20, 200, 60);
         due("a * n less b * m", x.difference(0), 300 * 3 - 90 * 2);
         x.cried(0, 3);
         due("of those there", x.difference(0), 100 * 2 - 30);
@@ -722,8 +673,8 @@ public final class PromisesTest {
         due("no ODD one", x.difference(0), VOID);
         due("no such BABY", x.difference(1), VOID);
         due("no such BABY", x.difference(-1), VOID);
-        LookTimes y = planned(1, 0);
-        looks(y, 0, 20, 100, 0);
+        LookTimes y = Scene.planned(1, 0);
+        Scene.looks(y, 0, 20, 100, 0);
         due("no other one", y.difference(0), VOID);
         y.gaze(0, 1, 300);
         due("below 0", y.difference(0), -200);
@@ -740,7 +691,7 @@ public final class PromisesTest {
 
     private static void odds() {
         promise = "24";
-        LookTimes x = differing(10, 20, -30, 40);
+        LookTimes x = Scene.differing(10, 20, -30, 40);
         due("COUNTED", x.odds(0), 4);
         due("SUM", x.odds(1), 40);
         // Turned ones that are 0 or less together: {}, {-30}, {10,-30}, {20,-30}, {10,20,-30}.
@@ -760,20 +711,20 @@ public final class PromisesTest {
         x.leave(2, true);
         due("without a LEFT one", x.odds(0), 2);
         due("all but one way is less", x.odds(3), 250);
-        LookTimes same = differing(0, 0, 0);
+        LookTimes same = Scene.differing(0, 0, 0);
         due("all 0", same.odds(2), 8);
         due("all 0, of 1000", same.odds(3), 1000);
         int[] many = new int[16];
         java.util.Arrays.fill(many, 5);
-        due("sixteen: one way", differing(many).odds(2), 1);
-        due("sixteen: of 1000", differing(many).odds(3), 0);
+        due("sixteen: one way", Scene.differing(many).odds(2), 1);
+        due("sixteen: of 1000", Scene.differing(many).odds(3), 0);
         java.util.Arrays.fill(many, -5);
-        due("sixteen: every way", differing(many).odds(2), 65536);
+        due("sixteen: every way", Scene.differing(many).odds(2), 65536);
         for (int i = 0; i < 16; i += 2) {
             many[i] = 5;
         }
         // At least as many of the eight below 0 turned as of the eight above: (2^16 + C(16, 8)) / 2.
-        due("sixteen, half and half", differing(many).odds(2), (65536 + 12870) / 2);
+        due("sixteen, half and half", Scene.differing(many).odds(2), (65536 + 12870) / 2);
     }
 
     private static void afters() {
@@ -786,7 +737,7 @@ public final class PromisesTest {
         due("what 5", none.after(5), NONE);
         due("what -1", none.after(-1), NONE);
         // Only W 20 or less ends the long look at what is as it must be; only MOST 300 or more keeps what is ODD long.
-        LookTimes x = planned(0, 1);
+        LookTimes x = Scene.planned(0, 1);
         for (int i = 0; i < 5; i++) {
             x.baby(0, 0, 20);
             x.gaze(i, 0, 200);
@@ -814,7 +765,7 @@ public final class PromisesTest {
         Check.laws(x, "out if 299<total;");
         due("OUT by LENGTHS then: MOST 150", x.after(0) * 1000 + x.after(1), 5150);
         due("OUT by LENGTHS then", x.after(3), 1000);
-        LookTimes late = planned(0, 1);
+        LookTimes late = Scene.planned(0, 1);
         for (int i = 0; i < 5; i++) {
             late.baby(0, 0, 20);
             late.gaze(i, 0, 200);
@@ -826,17 +777,17 @@ public final class PromisesTest {
         due("MOST 300", late.after(1), 300);
         due("the first READING", late.after(2), 0);
         due("below 50: READINGS 0, 2, 3 twice", late.after(4), 6);
-        LookTimes split = planned(0, 1);
-        looks(split, 0, 20, 127, 127);
+        LookTimes split = Scene.planned(0, 1);
+        Scene.looks(split, 0, 20, 127, 127);
         split.gaze(0, 1, 1);
         split.gaze(0, 1, 1);
         due("like ones: the first", split.after(0) * 1000000 + split.after(1) * 1000 + split.after(2), 5150000);
         due("ODDS of it", split.after(3), 500);
         refusals(split, 0, 0, 0);
         // Of 1000 both are 0: with W 40 one way of 4096, with less two.
-        LookTimes fine = planned(0, 1);
+        LookTimes fine = Scene.planned(0, 1);
         for (int i = 0; i < 12; i++) {
-            looks(fine, 0, 20, 100, i == 0 ? 100 : 140);
+            Scene.looks(fine, 0, 20, 100, i == 0 ? 100 : 140);
         }
         fine.gaze(0, 1, 30);
         fine.gaze(0, 1, 50);
@@ -844,19 +795,19 @@ public final class PromisesTest {
         due("ODDS then", fine.after(3), 0);
         due("below 50", fine.after(4), 48);
         // 13 of 256 ways are 50 of 1000 by READINGS 0 and 1; by digits 9 are 35, by the greatest 26 are 101.
-        LookTimes edge = planned(0, 1);
+        LookTimes edge = Scene.planned(0, 1);
         for (int difference : new int[] {31, 15, 27, 22, 36, 40, 18, -42}) {
-            looks(edge, 0, 20, 60, 60 + difference);
+            Scene.looks(edge, 0, 20, 60, 60 + difference);
         }
         due("50 of 1000", edge.odds(3), 50);
         due("isn't below 50", edge.after(4), 12);
         due("the READING", edge.after(2), 2);
         due("ODDS then", edge.after(3), 35);
         // MOST 150 puts one OUT: 2 of 4 ways; MOST 300 doesn't: 2 of 8.
-        LookTimes fewer = planned(0, 1);
-        looks(fewer, 0, 20, 100, 140);
-        looks(fewer, 0, 20, 100, 100);
-        looks(fewer, 0, 20, 5, 200);
+        LookTimes fewer = Scene.planned(0, 1);
+        Scene.looks(fewer, 0, 20, 100, 140);
+        Scene.looks(fewer, 0, 20, 100, 100);
+        Scene.looks(fewer, 0, 20, 5, 200);
         Check.laws(fewer, "out if total<160;");
         due("fractions of other numbers of BABIES", fewer.after(1), 300);
         due("ODDS then", fewer.after(3), 250);
@@ -864,7 +815,7 @@ public final class PromisesTest {
 
     private static void leavings() {
         promise = "26";
-        LookTimes x = differing(10, 20, -30, 40);
+        LookTimes x = Scene.differing(10, 20, -30, 40);
         due("none need go", x.leaving(313), 0);
         due("of 312, one must", x.leaving(312), 4);
         // Without the third: 1 of 8.
@@ -875,37 +826,37 @@ public final class PromisesTest {
         due("limit 0", x.leaving(0), NONE);
         due("limit 1", x.leaving(1), NONE);
         due("none COUNTED", new LookTimes().leaving(1000), NONE);
-        LookTimes y = differing(-9, 1, -9, 1, -9, 1, 1, 1, 1);
+        LookTimes y = Scene.differing(-9, 1, -9, 1, -9, 1, 1, 1, 1);
         due("three must", y.leaving(16), 21);
         y.leave(0, true);
         due("two of COUNTED must", y.leaving(16), 20);
-        LookTimes z = differing(5, 5, -5, -5, 5, 5);
+        LookTimes z = Scene.differing(5, 5, -5, -5, 5, 5);
         // Without both below 0 one of 16 is left; of single ones the third comes first.
         due("both", z.leaving(63), 12);
         due("the least bits of like ones", z.leaving(300), 4);
         due("ODDS of all", z.odds(3), (22 * 1000) / 64);
         int[] fives = {5, 5, 5, 5, 5, 5, 5, 5, 5, 5};
-        due("limit 1: below it is 0", differing(fives).leaving(1), 0);
-        LookTimes one = differing(-30, 10, 20);
+        due("limit 1: below it is 0", Scene.differing(fives).leaving(1), 0);
+        LookTimes one = Scene.differing(-30, 10, 20);
         due("the first BABY: 1 of 4 ways is below 251", one.leaving(251), 1);
         due("250 isn't below 250", one.leaving(250), NONE);
-        LookTimes two = differing(-9, -9, 1, 1, 1, 1);
+        LookTimes two = Scene.differing(-9, -9, 1, 1, 1, 1);
         due("the first two: 1 of 16", two.leaving(63), 3);
         due("62 isn't below 62", two.leaving(62), NONE);
-        LookTimes three = differing(-9, -9, -9, 1, 1, 1, 1, 1, 1);
+        LookTimes three = Scene.differing(-9, -9, -9, 1, 1, 1, 1, 1, 1);
         due("the first three: 1 of 64", three.leaving(16), 7);
         due("15 isn't below 15", three.leaving(15), NONE);
-        LookTimes four = differing(-9, -9, -9, -9, 1, 1, 1, 1, 1, 1, 1);
+        LookTimes four = Scene.differing(-9, -9, -9, -9, 1, 1, 1, 1, 1, 1, 1);
         due("four would have to", four.leaving(8), NONE);
     }
 
     private static void houses() {
         promise = "27";
-        LookTimes x = planned(0, 1);
-        looks(x, 0, 20, 100, 110);
-        looks(x, 0, 20, 100, 120);
-        looks(x, 5, 20, 100, 60);
-        looks(x, 2, 20, 100, 0);
+        LookTimes x = Scene.planned(0, 1);
+        Scene.looks(x, 0, 20, 100, 110);
+        Scene.looks(x, 0, 20, 100, 120);
+        Scene.looks(x, 5, 20, 100, 60);
+        Scene.looks(x, 2, 20, 100, 0);
         due("COUNTED in HOUSE 0", x.house(0, 0), 2);
         due("SUM in HOUSE 0", x.house(0, 1), 30);
         due("SUM in HOUSE 5", x.house(5, 1), -40);
@@ -932,7 +883,7 @@ public final class PromisesTest {
 
     private static void spans() {
         promise = "29";
-        LookTimes x = differing(10, 10, -20);
+        LookTimes x = Scene.differing(10, 10, -20);
         x.lean(7);
         // LEAN 0: {}, {-20}, {10,-20} twice, {10,10,-20}: 5 of 8.
         due("l 0, the least", x.span(0, 0), 625);
@@ -956,7 +907,7 @@ public final class PromisesTest {
 
     private static void spreadsAndWorlds() {
         promise = "30";
-        LookTimes x = planned(0, 1, 0);
+        LookTimes x = Scene.planned(0, 1, 0);
         yes("spread(0, 1)", x.spread(0, 1));
         yes("spread(100, 5)", x.spread(100, 5));
         no("s too low", x.spread(-1, 1));
@@ -1020,7 +971,7 @@ public final class PromisesTest {
 
     private static void manyWorlds() {
         promise = "32";
-        LookTimes x = differing(10, 20, 30, 40, 50);
+        LookTimes x = Scene.differing(10, 20, 30, 40, 50);
         Check.laws(x, "law a is 100+order*50;law b is 200-order*50;");
         due("all by a LAW", x.worlds(0, 0, 10, 31), 10);
         due("one of 32 is 31", x.worlds(0, 0, 10, 30), 0);
@@ -1052,7 +1003,7 @@ public final class PromisesTest {
 
     private static void parts() {
         promise = "33";
-        LookTimes x = planned(0, 1, 0);
+        LookTimes x = Scene.planned(0, 1, 0);
         Check.laws(x, "law a is 50+odd;law b is 50-odd;law c is 50;law d is 70+odd*9;law e is age*odd+20;");
         due("above, below", x.parts(0, 0, 1, 20), 1);
         due("above, 0", x.parts(0, 0, 2, 20), 1);
@@ -1095,7 +1046,7 @@ public final class PromisesTest {
         due("no SCREENS", x.next(2, 20, NONE), NONE);
         x.screen(1, 1, 2, 0);
         due("one SCREEN", x.next(2, 20, NONE), NONE);
-        x = staged();
+        x = Scene.staged();
         next(x, 2, 20, 0, 0, 1);
         Check.laws(x, "law a is 50+odd;law b is 50-odd;");
         next(x, 4, 20, 1, 0, 1);
@@ -1144,9 +1095,9 @@ public final class PromisesTest {
 
     private static void freshOnes() {
         promise = "35";
-        LookTimes x = planned(0, 1, 0, 0);
-        looks(x, 0, 20, 100, 200, 50, 30);
-        looks(x, 0, 30, 101, 0, 61, 20);
+        LookTimes x = Scene.planned(0, 1, 0, 0);
+        Scene.looks(x, 0, 20, 100, 200, 50, 30);
+        Scene.looks(x, 0, 30, 101, 0, 61, 20);
         due("no TRIAL ahead", x.fresh(0), 401 / 3);
         due("one ahead", x.fresh(1), 111 / 2);
         due("two ahead", x.fresh(2), 25);
@@ -1162,42 +1113,42 @@ public final class PromisesTest {
         Check.laws(x, "out if age=30;");
         due("not who is OUT", x.fresh(0), 310 / 2);
         due("not who is OUT", x.fresh(2), NONE);
-        LookTimes y = planned(2, 2, 2, 2, 2, 2, 2, 2);
-        looks(y, 0, 20, 8, 7, 6, 5, 4, 3, 2, 1);
+        LookTimes y = Scene.planned(2, 2, 2, 2, 2, 2, 2, 2);
+        Scene.looks(y, 0, 20, 8, 7, 6, 5, 4, 3, 2, 1);
         due("seven ahead", y.fresh(7), 1);
         y.cried(0, NONE);
-        due("TRIALS that are missing are ahead too", looks(y, 0, 20, 0, 90) == 1 ? y.fresh(1) : 0, 97 / 2);
+        due("TRIALS that are missing are ahead too", Scene.looks(y, 0, 20, 0, 90) == 1 ? y.fresh(1) : 0, 97 / 2);
     }
 
     private static void settledOnes() {
         promise = "36";
-        LookTimes x = planned(0, 0, 0, 0, 0);
-        looks(x, 0, 20, 100, 60, 40, 40, 39);
+        LookTimes x = Scene.planned(0, 0, 0, 0, 0);
+        Scene.looks(x, 0, 20, 100, 60, 40, 40, 39);
         due("less than half", x.settled(0), 4);
-        looks(x, 0, 20, 100, 61, 40, 40, 39);
+        Scene.looks(x, 0, 20, 100, 61, 40, 40, 39);
         due("less than half, by a half", x.settled(1), 3);
-        looks(x, 0, 20, 100, 10, 20, 10, 1);
+        Scene.looks(x, 0, 20, 100, 10, 20, 10, 1);
         due("the TRIAL 2 with 1", x.settled(2), 2);
-        looks(x, 0, 20, 100, 60, 40, 40, 40);
+        Scene.looks(x, 0, 20, 100, 60, 40, 40, 40);
         due("half isn't", x.settled(3), NONE);
-        looks(x, 0, 20, 100, 0, 1, 1, 1);
+        Scene.looks(x, 0, 20, 100, 0, 1, 1, 1);
         due("TRIAL 1 is missing", x.settled(4), NONE);
-        looks(x, 0, 20, 0, 100, 1, 1, 1);
+        Scene.looks(x, 0, 20, 0, 100, 1, 1, 1);
         due("TRIAL 0 is missing", x.settled(5), NONE);
-        looks(x, 0, 20, 100, 100, 0, 1, 1);
+        Scene.looks(x, 0, 20, 100, 100, 0, 1, 1);
         due("TRIAL 2 is missing", x.settled(6), 4);
-        looks(x, 0, 20, 100, 100, 50, 0, 1);
+        Scene.looks(x, 0, 20, 100, 100, 50, 0, 1);
         due("TRIAL 3 is missing", x.settled(7), NONE);
-        looks(x, 0, 20, 100, 100, 50, 40, 1);
+        Scene.looks(x, 0, 20, 100, 100, 50, 40, 1);
         x.cried(8, 3);
         due("CRIED", x.settled(8), NONE);
         due("no such BABY", x.settled(9), NONE);
         due("no such BABY", x.settled(-1), NONE);
-        LookTimes y = planned(0, 1);
-        looks(y, 0, 20, 100, 1);
+        LookTimes y = Scene.planned(0, 1);
+        Scene.looks(y, 0, 20, 100, 1);
         due("two TRIALS", y.settled(0), NONE);
-        LookTimes z = planned(1, 0, 0);
-        looks(z, 0, 20, 95, 20, 40);
+        LookTimes z = Scene.planned(1, 0, 0);
+        Scene.looks(z, 0, 20, 95, 20, 40);
         due("without LEAN", z.settled(0), NONE);
         z.lean(6);
         due("with LEAN", z.settled(0), 2);
@@ -1205,10 +1156,10 @@ public final class PromisesTest {
 
     private static void aparts() {
         promise = "37";
-        LookTimes x = planned(0, 1, 0);
-        looks(x, 0, 20, 100, 200, 50);
-        looks(x, 0, 30, 300, 0, 310);
-        looks(x, 0, 40, 90, 120, 0);
+        LookTimes x = Scene.planned(0, 1, 0);
+        Scene.looks(x, 0, 20, 100, 200, 50);
+        Scene.looks(x, 0, 30, 300, 0, 310);
+        Scene.looks(x, 0, 40, 90, 120, 0);
         due("no LAW", x.apart(0, 0), NONE);
         promise = "38";
         due("no LAW", x.nearest(0), NONE);
@@ -1251,7 +1202,7 @@ public final class PromisesTest {
 
     private static void books() {
         promise = "39";
-        LookTimes x = planned(0, 1);
+        LookTimes x = Scene.planned(0, 1);
         no("book(-1)", x.book(-1));
         no("book(17)", x.book(17));
         refusals(x, 0, 0, 2);
@@ -1260,7 +1211,7 @@ public final class PromisesTest {
         yes("book(0)", x.book(0));
         promise = "40";
         due("kept", x.kept(), 0);
-        looks(x, 0, 20, 1, 2);
+        Scene.looks(x, 0, 20, 1, 2);
         due("more BABIES", x.kept(), 16);
         x.book(2);
         due("fewer BABIES", x.kept(), 8);
@@ -1307,9 +1258,9 @@ public final class PromisesTest {
 
     private static void images() {
         promise = "41";
-        LookTimes x = planned(0, 1);
-        looks(x, 0, 20, 100, 200);
-        looks(x, 1, 30, 300, 200);
+        LookTimes x = Scene.planned(0, 1);
+        Scene.looks(x, 0, 20, 100, 200);
+        Scene.looks(x, 1, 30, 300, 200);
         no("image(-1)", x.image(-1));
         no("image(3)", x.image(3));
         promise = "42";
@@ -1335,7 +1286,7 @@ public final class PromisesTest {
         x.rule(5, 30, 50);
         x.lean(-4);
         x.reading(2, 30);
-        looks(x, 2, 40, 7, 7);
+        Scene.looks(x, 2, 40, 7, 7);
         x.screen(0, 0, 0, 0);
         x.plan();
         x.liked(0, 8);
@@ -1355,7 +1306,7 @@ public final class PromisesTest {
         due("GAZES go on from there", x.gaze(0, 0, 1), 2);
         yes("restore(2) again", x.restore(2));
         due("the IMAGE is as it was", x.gaze(0, 0, 1), 2);
-        due("a BABY in place of one that is gone", looks(x, 3, 50, 5), 2);
+        due("a BABY in place of one that is gone", Scene.looks(x, 3, 50, 5), 2);
         due("has no old GAZE", x.length(2, 1), NONE);
         due("is not LEFT", x.leave(2, true) ? 1 : 0, 1);
         yes("restore(0)", x.restore(0));
@@ -1377,9 +1328,9 @@ public final class PromisesTest {
 
     private static void plansBehindImages() {
         promise = "42";
-        LookTimes x = planned(0, 1);
+        LookTimes x = Scene.planned(0, 1);
         x.image(0);
-        looks(x, 0, 20, 100, 200);
+        Scene.looks(x, 0, 20, 100, 200);
         x.image(1);
         x.restore(0);
         due("no BABY has the PLAN", x.trial(0, 2), 3);
@@ -1391,7 +1342,7 @@ public final class PromisesTest {
         due("DIFFERENCE", x.difference(0), 200 * 2 - 150);
         due("a BABY has the PLAN", x.trial(0, 2), NONE);
         refusals(x, 0, 0, 1);
-        LookTimes y = planned(0, 1);
+        LookTimes y = Scene.planned(0, 1);
         y.plan();
         y.trial(1, 2);
         y.image(0);
@@ -1454,11 +1405,11 @@ public final class PromisesTest {
 
     private static void counts() {
         promise = "44";
-        LookTimes x = planned(0, 1);
+        LookTimes x = Scene.planned(0, 1);
         x.plan();
-        looks(x, 0, 20, 1);
-        looks(x, 0, 20, 1);
-        looks(x, 0, 20, 1);
+        Scene.looks(x, 0, 20, 1);
+        Scene.looks(x, 0, 20, 1);
+        Scene.looks(x, 0, 20, 1);
         x.leave(0, true);
         x.leave(2, true);
         Check.laws(x, "law a is 1;law b is 1;law c is 1;law d is 1;law e is 1;out if 0;out if 0;out if 0;");

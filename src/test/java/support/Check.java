@@ -1,7 +1,14 @@
+import java.io.IOException;
+import java.nio.file.Files;
+import java.nio.file.Path;
+
 /** What the tests share: answers compared with those that are due, and texts fed as numbers. */
 final class Check {
+    private static final Path DOCUMENT = Path.of("../shared/DOC.md");
     private static int wrong = 0;
     private static int asked = 0;
+    private static String sentence = "";
+    private static String document;
 
     private Check() {
     }
@@ -11,9 +18,27 @@ final class Check {
         if (got != want) {
             wrong++;
             if (wrong <= 50) {
-                System.out.println(what + " answered " + got + ", due is " + want);
+                System.out.println(sentence + what + " answered " + got + ", due is " + want);
             }
         }
+    }
+
+    /** What follows tests this sentence, which must stand in the document in these words. */
+    static void sentence(String words) {
+        sentence = "";
+        yes("the document says <" + words + ">", document().isEmpty() || document().contains(words));
+        sentence = "\"" + words + "\": ";
+    }
+
+    private static String document() {
+        if (document == null) {
+            try {
+                document = Files.exists(DOCUMENT) ? Files.readString(DOCUMENT).replaceAll("\\s+", " ") : "";
+            } catch (IOException e) {
+                document = "";
+            }
+        }
+        return document;
     }
 
     static void yes(String what, boolean got) {
