@@ -297,6 +297,17 @@ public final class BoundsOfAnswersTest {
         Check.due("MOST", x.after(1), 600);
         Check.due("W", x.after(0), 5);
         Check.due("ODDS", x.after(3), 0);
+        // Sixteen BABIES: with W 5 three ways (one is 20 below, one 20 above), with W 10 one.
+        LookTimes odd = Scene.planned(1, 0);
+        for (int i = 0; i < 15; i++) {
+            Scene.looks(odd, 0, 8, i == 14 ? 140 : 150, i == 14 ? 120 : 100);
+        }
+        Scene.looks(odd, 0, 8, 100, 120);
+        odd.gaze(15, 0, 5);
+        odd.gaze(15, 0, 100);
+        Check.due("W", odd.after(0), 10);
+        Check.due("MOST", odd.after(1), 150);
+        Check.due("READING", odd.after(2), 0);
         // MOST 150 keeps one BABY of three, MOST 300 two: 1 of 2 and 2 of 4 are like.
         LookTimes y = Scene.planned(1, 0);
         Scene.looks(y, 0, 8, 120, 100);
@@ -327,6 +338,7 @@ public final class BoundsOfAnswersTest {
         Check.due("1 is below 2", Scene.differing(Arrays.copyOf(ten, 9)).leaving(2), 0);
         Check.due("none COUNTED", new LookTimes().leaving(1000), NONE);
         Check.due("all 0", Scene.differing(0, 0, 0).leaving(1000), NONE);
+        Check.due("all 0, sixteen of them", Scene.differing(new int[16]).leaving(1000), NONE);
         Check.due("none left is 1000", Scene.differing(-5).leaving(1000), NONE);
         Check.due("none left is 1000", Scene.differing(-5, -5, -5).leaving(1000), NONE);
         Check.due("one left", Scene.differing(-5, -5, 5).leaving(501), 3);
@@ -762,6 +774,10 @@ public final class BoundsOfAnswersTest {
         row(x, 4, 5, 0, 1);
         Check.laws(x, "law a is 50;law b is 50+odd;law c is 50-odd;");
         row(x, 4, 3, 0, 1);
+        Check.laws(x, "law a is 1;law b is 2;law c is 3;law d is 4;law e is 5;law f is 6;");
+        row(x, 4, 0, 0, 1);
+        Check.laws(x, "law a is 1;law b is 2;law c is 3;law d is 4;law e is 5;law f is 6+odd*(order=3);");
+        row(x, 4, 5, 0, 1, 2, 6);
     }
 
     private static void nextOfTwelve() {
@@ -1010,6 +1026,19 @@ public final class BoundsOfAnswersTest {
         x.restore(2);
         x.restore(0);
         Check.due("the newer IMAGE", x.length(0, 0), 5);
+        LookTimes y = Scene.planned(1, 0, 1, 0, 1, 0, 1, 0);
+        y.image(0);
+        y.baby(0, 5, 60);
+        y.world(NONE, 1);
+        y.cried(0, 3);
+        y.leave(0, true);
+        y.restore(0);
+        Check.due("a BABY in place of one that is gone", y.baby(0, 0, 8), 0);
+        Check.due("isn't LEFT", y.count(6), 0);
+        for (int trial = 0; trial < 8; trial++) {
+            Check.due("has no old GAZE", y.gaze(0, trial, 9), 1);
+            Check.due("hasn't CRIED", y.length(0, trial), 9);
+        }
     }
 
     private static void imagesFull() {

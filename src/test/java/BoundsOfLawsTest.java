@@ -277,6 +277,9 @@ public final class BoundsOfLawsTest {
         fault("law a is 1;law b is 1;law c is 1;law d is 1;law e is 1;law e is 1;", 59);
         fault("law a is 1;law b is 1;law c is 1;law d is 1;law e is 1;law ee is 1;", NONE);
         fault("law a is 1;out if 1;law a is 2;", 24);
+        fault("law a is 1;law a\nis 2;", 15);
+        fault("law a is 1;law\na is 2;", 15);
+        fault("law abcdefgh is 1;law  abcdefgh  is 2;", 23);
         LookTimes x = new LookTimes();
         Check.due("a name of LAWS ahead", Check.laws(x, "law a is 1;"), 1);
         Check.due("is free again", Check.laws(x, "law a is 2;"), 1);
