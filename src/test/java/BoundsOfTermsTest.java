@@ -27,6 +27,10 @@ public final class BoundsOfTermsTest {
         capAtFirst();
         digits();
         shares();
+        onAndRow();
+        lengthsThatAreNot();
+        leaves();
+        newObject();
         counts();
         calls();
         Check.close("BoundsOfTermsTest");
@@ -504,6 +508,86 @@ public final class BoundsOfTermsTest {
         Check.due("half", z.read(0, 0), 50);
         z.cried(0, 2);
         Check.due("what is missing isn't the greatest", z.read(0, 0), 100);
+    }
+
+    private static void onAndRow() {
+        Check.sentence("Of a SCREEN: 0 FIRST, 1 HAND, 2 SHOWN, 3 KIND, 4 whether ODD. VOID for others, or if there is none such.");
+        LookTimes x = Scene.staged();
+        int[][] due = {{1, 1, 2, 0, 0}, {1, 1, 1, 1, 1}, {7, -2, 5, 2, 0}, {4, 0, 5, 3, 1}};
+        for (int screen = -2; screen <= 6; screen++) {
+            for (int what = -2; what <= 7; what++) {
+                boolean there = in(screen, 0, 3) && in(what, 0, 4);
+                Check.due("on(" + screen + ", " + what + ")", x.on(screen, what), there ? due[screen][what] : VOID);
+            }
+        }
+        Check.sentence("How many TRIALS a PLAN has (k NONE), or the SCREEN of the k-th; NONE if there is none such.");
+        Scene.addPlan(x, 3, 0, 3);
+        Scene.addPlan(x);
+        int[] row = {3, 0, 3};
+        for (int k = -3; k <= 9; k++) {
+            Check.due("row(0, " + k + ")", x.row(0, k), k == NONE ? 3 : in(k, 0, 2) ? row[k] : NONE);
+            Check.due("row(1, " + k + ")", x.row(1, k), k == NONE ? 0 : NONE);
+            Check.due("row(2, " + k + ")", x.row(2, k), NONE);
+            Check.due("row(-1, " + k + ")", x.row(-1, k), NONE);
+        }
+    }
+
+    private static void lengthsThatAreNot() {
+        Check.sentence("The LENGTH of a TRIAL, with LEAN; NONE if it is missing, or there are none such.");
+        LookTimes x = Scene.planned(1, 0, 1);
+        Scene.addPlan(x, 0);
+        Scene.looks(x, 0, 8, 10, 0, 30);
+        Scene.looksOf(x, 1, 0, 8, 40);
+        x.lean(5);
+        int[][] due = {{15, NONE, 35}, {40, NONE, NONE}};
+        for (int reading = 0; reading < 2; reading++) {
+            x.reading(reading, 35);
+            for (int baby = -2; baby <= 3; baby++) {
+                for (int trial = -2; trial <= 8; trial++) {
+                    int want = in(baby, 0, 1) && in(trial, 0, 2) ? due[baby][trial] : NONE;
+                    Check.due("length(" + baby + ", " + trial + ")", x.length(baby, trial), want);
+                    Check.due("read(" + baby + ", " + trial + ")", x.read(baby, trial), reading == 1 ? Math.min(35, want) : want);
+                }
+            }
+        }
+    }
+
+    private static void leaves() {
+        Check.sentence("A BABY is LEFT out by hand, or no more: true; false (REFUSED), also if it is so already.");
+        LookTimes x = Scene.differing(1, 2, 4);
+        for (int baby = 0; baby < 3; baby++) {
+            Check.no("isn't LEFT already", x.leave(baby, false));
+            Check.yes("leave(" + baby + ", true)", x.leave(baby, true));
+            Check.no("is LEFT already", x.leave(baby, true));
+            Check.due("LEFT", x.count(6), baby + 1);
+            Check.due("SUM", x.odds(1), 7 >> baby + 1 << baby + 1);
+        }
+        Check.due("it can't be otherwise", x.status(2), 6);
+        Check.yes("leave(1, false)", x.leave(1, false));
+        Check.no("isn't LEFT now", x.leave(1, false));
+        Check.due("LEFT", x.count(6), 2);
+        Check.due("SUM", x.odds(1), 2);
+        Check.no("no BABY 3", x.leave(3, true));
+        Check.no("no BABY -1", x.leave(-1, false));
+        Check.due("none such", x.status(0), 2);
+    }
+
+    private static void newObject() {
+        Check.sentence("No SCREENS, PLANS, BABIES, LAWS.");
+        LookTimes x = new LookTimes();
+        for (int what = 0; what <= 6; what++) {
+            Check.due("count(" + what + ")", x.count(what), 0);
+        }
+        Check.due("on(0, 0)", x.on(0, 0), VOID);
+        Check.due("row(0, NONE)", x.row(0, NONE), NONE);
+        Check.due("out(0, 0)", x.out(0, 0), NONE);
+        Check.due("world(0, 0)", x.world(0, 0), NONE);
+        Check.due("trial(0, 0)", x.trial(0, 0), NONE);
+        Check.due("baby(0, 0, 8)", x.baby(0, 0, 8), NONE);
+        Check.due("none such", x.status(0), 3);
+        LookTimes y = new LookTimes();
+        Check.due("the first SCREEN", y.screen(0, 0, 0, 0), 0);
+        Check.due("is its own", new LookTimes().count(0), 0);
     }
 
     private static void counts() {
