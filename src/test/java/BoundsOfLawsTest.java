@@ -298,6 +298,13 @@ public final class BoundsOfLawsTest {
             fault("law a is 1+" + number + ";", 11);
             fault("out if " + number, 7);
         }
+        // A number that can't be, where no number can stand.
+        fault("10000", 0);
+        fault("law a is 1;10000", 11);
+        fault("law a is 1; 99999;", 12);
+        fault("law 10000", 4);
+        fault("law a 10000", 6);
+        fault("law a is 1 10000", 11);
         fault("law a is -1;", 9);
         fault("law a is +1;", 9);
         fault("law a is (-1);", 10);
