@@ -891,7 +891,12 @@ public final class LookTimes {
                 return false;
             }
             at++;
-            return parseExpression(depth + 1) && parseToken(FIRST_SIGN + ')');
+            // Not by parseToken: calls would go nine deep.
+            if (!parseExpression(depth + 1) || text.code(at) != FIRST_SIGN + ')') {
+                return false;
+            }
+            at++;
+            return true;
         }
     }
 

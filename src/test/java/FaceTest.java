@@ -1,18 +1,13 @@
-import java.io.IOException;
 import java.lang.reflect.Constructor;
 import java.lang.reflect.Field;
 import java.lang.reflect.Method;
 import java.lang.reflect.Modifier;
-import java.nio.file.Files;
-import java.nio.file.Path;
 import java.util.Arrays;
 import java.util.Set;
 import java.util.TreeSet;
-import java.util.regex.Matcher;
-import java.util.regex.Pattern;
 import java.util.stream.Collectors;
 
-/** The public face is the document's and no more, and the source keeps to what LANGUAGE.md leaves. */
+/** The public face is the document's and no more (LANGUAGE.md, rule 1); LanguageTest has the other rules. */
 public final class FaceTest {
     private static final String[] FACE = {
         "int feed(int,int,int,int,int)", "boolean end(int)", "int fault()", "int laws()", "boolean liked(int,int)",
@@ -25,11 +20,8 @@ public final class FaceTest {
         "int parts(int,int,int,int)", "int next(int,int,int)", "int fresh(int)", "int settled(int)",
         "int apart(int,int)", "int nearest(int)", "boolean book(int)", "int kept()", "boolean image(int)",
         "boolean restore(int)", "int status(int)", "int count(int)"};
-    private static final String[] FORBIDDEN = {"throw", "try", "catch", "synchronized", "assert", "import",
-        "protected", "->", "::", "@", "Exact", "Random", "System\\.(?!arraycopy)", "Thread", "static \\{",
-        "\\.equals", "hashCode", "toString", "String\\[\\]"};
 
-    public static void main(String[] args) throws IOException {
+    public static void main(String[] args) {
         methods();
         fields();
         Check.yes("the class is public and final",
@@ -44,7 +36,6 @@ public final class FaceTest {
         for (Class<?> one : inside) {
             inside(one, names);
         }
-        source();
         Check.close("FaceTest");
     }
 
@@ -89,28 +80,6 @@ public final class FaceTest {
         for (Method method : one.getDeclaredMethods()) {
             Check.no(one.getName() + "." + method.getName() + " bears a public name", names.contains(method.getName()));
             Check.yes(one.getName() + "." + method.getName() + " takes at most seven", method.getParameterCount() <= 7);
-        }
-    }
-
-    private static void source() throws IOException {
-        String source = Files.readString(Path.of("src/main/java/LookTimes.java"));
-        String bare = source.replaceAll("(?s)/\\*.*?\\*/", "").replaceAll("//[^\n]*", "")
-            .replaceAll("\"[^\"\n]*\"", "\"\"").replaceAll("'\\\\?.'", "0");
-        for (String word : FORBIDDEN) {
-            String whole = word.matches("[a-z]+") ? "\\b" + word + "\\b" : word;
-            Matcher found = Pattern.compile(whole).matcher(bare);
-            Check.no("the source has " + word, found.find());
-        }
-        Check.yes("characters 10 and 32 to 126 alone", source.matches("(?s)[\n -~]*"));
-        int start = 0;
-        String[] lines = source.split("\n");
-        for (int i = 0; i < lines.length; i++) {
-            if (lines[i].matches(" {4}( {4})?[a-z].*\\) \\{")) {
-                start = i;
-            } else if (lines[i].matches(" {4}( {4})?\\}")) {
-                Check.yes("the method that ends in line " + (i + 1) + " is short", i - start < 60 || start == 0);
-                start = 0;
-            }
         }
     }
 }
