@@ -132,7 +132,7 @@ public final class BoundsOfAnswersTest {
 
     /** Sixteen BABIES of four ODD TRIALS and four others, all as far apart as can be. */
     private static void oddsOfMany() {
-        Check.sentence("of the 2 to the power of n ways to turn signs of n COUNTED BABIES' DIFFERENCES or not");
+        Check.sentence("ODDS: of the 2 to the power of n ways to turn signs of n COUNTED BABIES' DIFFERENCES or not");
         LookTimes x = Scene.staged();
         Scene.addPlan(x, 1, 1, 1, 1, 0, 0, 0, 0);
         for (int i = 0; i < 16; i++) {
@@ -518,7 +518,7 @@ public final class BoundsOfAnswersTest {
     }
 
     private static void lots() {
-        Check.sentence("x comes of a seed (0 .. 1000000); each time x becomes the lowest 31 bits of x * 1103515245 + 12345; a lot "
+        Check.sentence("LOTS: x comes of a seed (0 .. 1000000); each time x becomes the lowest 31 bits of x * 1103515245 + 12345; a lot "
             + "below n is x by 256 (cut), rest by n.");
         for (int seed : new int[] {0, 1, 2, 255, 256, 65536, 999999, 1000000}) {
             for (int s : new int[] {0, 1, 50, 100}) {
@@ -740,8 +740,8 @@ public final class BoundsOfAnswersTest {
     }
 
     private static void nextOrder() {
-        Check.sentence("of all rows of 2 to m (2 .. 4) unlike SCREENS the one that (as a PLAN) PARTS most couples of LAWS, of like "
-            + "ones the shortest, then the first by the first SCREEN's number, then the second's, and so on.");
+        Check.sentence("NEXT: of all rows of 2 to m (2 .. 4) unlike SCREENS the one that (as a PLAN) PARTS most couples of LAWS, of "
+            + "like ones the shortest, then the first by the first SCREEN's number, then the second's, and so on.");
         LookTimes x = new LookTimes();
         for (int i = 0; i < 4; i++) {
             x.screen(1, 1, i == 2 ? 2 : i, 0);
